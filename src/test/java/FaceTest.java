@@ -1,0 +1,125 @@
+import java.io.IOException;
+import java.lang.reflect.Constructor;
+import java.lang.reflect.Field;
+import java.lang.reflect.Method;
+import java.lang.reflect.Modifier;
+import java.nio.file.Files;
+import java.nio.file.Path;
+import java.util.Arrays;
+import java.util.List;
+import java.util.Set;
+import java.util.TreeSet;
+import java.util.stream.Collectors;
+
+/** The public face is that of the document, and the source keeps to those rules of LANGUAGE.md that words show. */
+final class FaceTest {
+    private static final Check CHECK = new Check();
+    private static final List<String> FACE = List.of(
+        "int addGain(int) IllegalArgumentException IllegalStateException",
+        "int addDelay(int,int) IllegalArgumentException IllegalStateException",
+        "int addFilter(int,int,int) IllegalArgumentException IllegalStateException",
+        "int addBus(int) IllegalArgumentException IllegalStateException",
+        "int connect(int,int,int) IndexOutOfBoundsException IllegalArgumentException IllegalStateException "
+            + "UnsupportedOperationException",
+        "int disconnect(int,int) IndexOutOfBoundsException NoSuchElementException",
+        "int setGain(int,int) IndexOutOfBoundsException UnsupportedOperationException IllegalArgumentException",
+        "int setOutput(int) IndexOutOfBoundsException",
+        "int nodes()",
+        "char kindOf(int) IndexOutOfBoundsException",
+        "int wires(int) IndexOutOfBoundsException",
+        "int wireFrom(int,int) IndexOutOfBoundsException NoSuchElementException",
+        "int wirePercent(int,int) IndexOutOfBoundsException NoSuchElementException",
+        "int nodeAt(int) IndexOutOfBoundsException",
+        "int longestBlock()",
+        "char setWave(char) IllegalArgumentException",
+        "int setEnvelope(int,int,int,int) IllegalArgumentException",
+        "int begin(int,int) IllegalArgumentException",
+        "int end(int) IllegalArgumentException NoSuchElementException",
+        "int endAll()",
+        "int sounding()",
+        "char stateOf(int) IndexOutOfBoundsException",
+        "int keyOf(int) IndexOutOfBoundsException IllegalStateException",
+        "int levelOf(int) IndexOutOfBoundsException",
+        "int phaseOf(int) IndexOutOfBoundsException IllegalStateException",
+        "int stolen()",
+        "int play(int) IllegalArgumentException",
+        "int step()",
+        "int ahead(int) IllegalArgumentException",
+        "int aheadByBlocks(int,int) IllegalArgumentException",
+        "int heard(int) IllegalArgumentException NoSuchElementException",
+        "int outputOf(int) IndexOutOfBoundsException",
+        "int time()",
+        "int greatest()",
+        "long energy()",
+        "double meanEnergy() ArithmeticException",
+        "float quietShare() ArithmeticException",
+        "boolean isConsistent()");
+
+    public static void main(String[] args) throws IOException {
+        face();
+        names();
+        words(Files.readString(Path.of(args.length > 0 ? args[0] : "src/main/java/ToneGraph.java")));
+        CHECK.close("FaceTest");
+    }
+
+    private static void face() {
+        Class<?> type = ToneGraph.class;
+        CHECK.due("public final class", Modifier.PUBLIC | Modifier.FINAL, type::getModifiers);
+        Set<String> seen = new TreeSet<>();
+        for (Method method : type.getDeclaredMethods()) {
+            if (!Modifier.isPrivate(method.getModifiers()) && !method.isSynthetic()) {
+                CHECK.due(method + " is public and no more", Modifier.PUBLIC, method::getModifiers);
+                seen.add(told(method));
+            }
+        }
+        CHECK.same("the methods", String.join("\n", new TreeSet<>(FACE)), String.join("\n", seen));
+        Constructor<?>[] made = type.getDeclaredConstructors();
+        CHECK.due("one constructor", 1, () -> made.length);
+        CHECK.due("it is public", Modifier.PUBLIC, made[0]::getModifiers);
+        CHECK.due("it takes nothing", 0, made[0]::getParameterCount);
+        for (Field field : type.getDeclaredFields()) {
+            CHECK.due(field + " is private", true, () -> Modifier.isPrivate(field.getModifiers()));
+        }
+    }
+
+    private static String told(Method method) {
+        String types = Arrays.stream(method.getParameterTypes()).map(Class::getName).collect(Collectors.joining(","));
+        String line = method.getReturnType() + " " + method.getName() + "(" + types + ")";
+        for (Class<?> exception : method.getExceptionTypes()) {
+            line += " " + exception.getSimpleName();
+        }
+        return line;
+    }
+
+    /** Rule 1 and the sizes of rule 11. */
+    private static void names() {
+        Set<String> open = new TreeSet<>();
+        for (String line : FACE) {
+            open.add(line.substring(line.indexOf(' ') + 1, line.indexOf('(')));
+        }
+        Class<?>[] inside = ToneGraph.class.getDeclaredClasses();
+        CHECK.due("not more than 12 classes", true, () -> inside.length < 12);
+        for (Class<?> type : inside) {
+            CHECK.due(type + " is static and not public", Modifier.STATIC,
+                    () -> type.getModifiers() & (Modifier.STATIC | Modifier.PUBLIC | Modifier.PROTECTED));
+            long fields = Arrays.stream(type.getDeclaredFields()).filter(f -> !Modifier.isStatic(f.getModifiers())).count();
+            CHECK.due(type + " has not more than 20 fields", true, () -> fields <= 20);
+            for (Method method : type.getDeclaredMethods()) {
+                CHECK.due(method + " bears no name of the face", false, () -> open.contains(method.getName()));
+            }
+        }
+    }
+
+    private static void words(String source) {
+        String code = source.replaceAll("(?s)/\\*.*?\\*/", " ").replaceAll("//[^\n]*", " ");
+        for (String word : List.of("->", "::", "try", "catch", "finally", "synchronized", "assert", "package", "static {",
+                "System.out", "Exact", "ThreadLocal", "Random", "currentTimeMillis", "nanoTime", "hashCode", "toString",
+                "equals", "instanceof", "record", "switch")) {
+            CHECK.due("no " + word, false, () -> code.contains(word));
+        }
+        long imports = code.lines().filter(line -> line.startsWith("import ")).count();
+        CHECK.due("one import", 1L, () -> imports);
+        CHECK.due("of the exception", true, () -> code.contains("import java.util.NoSuchElementException;"));
+        CHECK.due("signs up to 127", true, () -> source.chars().allMatch(sign -> sign < 128));
+    }
+}
