@@ -310,7 +310,17 @@ public final class ToneGraph {
     }
 
     public boolean isConsistent() {
-        return board.isInOrder() && live.choir.hasLevelsInRange() && isSameByBlocks();
+        if (!board.isInOrder() || !live.choir.hasLevelsInRange()) {
+            return false;
+        }
+        lookAhead(CHECKED_SAMPLES, 1, found);
+        lookAhead(CHECKED_SAMPLES, CHECKED_BLOCK, foundByBlocks);
+        for (int i = 0; i < CHECKED_SAMPLES; i++) {
+            if (found[i] != foundByBlocks[i]) {
+                return false;
+            }
+        }
+        return true;
     }
 
     // What the calls share
@@ -326,17 +336,6 @@ public final class ToneGraph {
     private void lookAhead(int samples, int longest, int[] row) {
         trial.copyFrom(live);
         trial.find(samples, longest, row);
-    }
-
-    private boolean isSameByBlocks() {
-        lookAhead(CHECKED_SAMPLES, 1, found);
-        lookAhead(CHECKED_SAMPLES, CHECKED_BLOCK, foundByBlocks);
-        for (int i = 0; i < CHECKED_SAMPLES; i++) {
-            if (found[i] != foundByBlocks[i]) {
-                return false;
-            }
-        }
-        return true;
     }
 
     private static void refuseOutside(int number, int least, int most) {
@@ -573,7 +572,19 @@ public final class ToneGraph {
 
         void findBlock(int size) {
             for (int place = 0; place < board.count; place++) {
-                findNode(board.order[place], size);
+                int node = board.order[place];
+                char kind = board.kind[node];
+                if (kind == VOICES) {
+                    findVoices(node, size);
+                } else if (kind == GAIN) {
+                    findGain(node, size);
+                } else if (kind == DELAY) {
+                    findDelay(node, size);
+                } else if (kind == FILTER) {
+                    findFilter(node, size);
+                } else {
+                    findBus(node, size);
+                }
             }
             // Delays get their input last, as it may come from nodes that stand behind them in the order.
             for (int node = 0; node < board.count; node++) {
@@ -584,24 +595,16 @@ public final class ToneGraph {
             }
         }
 
-        void findNode(int node, int size) {
-            char kind = board.kind[node];
-            if (kind == VOICES) {
-                findVoices(node, size);
-            } else if (kind == GAIN) {
-                findGain(node, size);
-            } else if (kind == DELAY) {
-                findDelay(node, size);
-            } else if (kind == FILTER) {
-                findFilter(node, size);
-            } else {
-                findBus(node, size);
-            }
-        }
-
         void findVoices(int node, int size) {
+            int[] row = block[node];
             for (int i = 0; i < size; i++) {
-                block[node][i] = cut(choir.nextSample());
+                row[i] = 0;
+            }
+            for (int voice = 0; voice < MOST_VOICES; voice++) {
+                choir.voices[voice].addSamples(row, size);
+            }
+            for (int i = 0; i < size; i++) {
+                row[i] = cut(row[i]);
             }
         }
 
@@ -765,17 +768,6 @@ public final class ToneGraph {
             }
             return true;
         }
-
-        int nextSample() {
-            int sum = 0;
-            for (int voice = 0; voice < MOST_VOICES; voice++) {
-                if (voices[voice].playing) {
-                    sum += voices[voice].sample();
-                    voices[voice].moveOn();
-                }
-            }
-            return sum;
-        }
     }
 
     /** A voice, and the note that it plays or played last. */
@@ -786,6 +778,8 @@ public final class ToneGraph {
         int velocity;
         char wave = SAW;
         Envelope envelope = new Envelope(0, 0, FULL_LEVEL, 0);
+        /** By how much the phase increases from sample to sample. */
+        int stride;
         int phase;
         int begun;
         int ended;
@@ -800,6 +794,7 @@ public final class ToneGraph {
             velocity = newVelocity;
             wave = newWave;
             envelope = newEnvelope;
+            stride = stepOfKey(newKey);
             phase = 0;
             begun = now;
             samples = 0;
@@ -810,20 +805,23 @@ public final class ToneGraph {
             samplesReleased = 0;
             released = true;
             ended = now;
-            freeWhenOver();
+            playing = envelope.release > 0;
         }
 
-        void freeWhenOver() {
-            if (released && samplesReleased >= envelope.release) {
-                playing = false;
+        /** Adds its next samples to those of other voices in the row. */
+        void addSamples(int[] row, int size) {
+            for (int i = 0; i < size && playing; i++) {
+                int shaped = waveValue() * level() / FULL_LEVEL;
+                row[i] += partOf(shaped, velocity);
+                moveOn();
             }
         }
 
         void moveOn() {
-            phase = phase + stepOfKey(key) & LAST_PHASE;
+            phase = phase + stride & LAST_PHASE;
             if (released) {
                 samplesReleased++;
-                freeWhenOver();
+                playing = samplesReleased < envelope.release;
             } else {
                 samples++;
             }
@@ -845,21 +843,32 @@ public final class ToneGraph {
                 return 0;
             }
             if (released) {
-                return envelope.levelBehind(levelAtRelease, samplesReleased);
+                int release = envelope.release;
+                return release > 0 ? levelAtRelease - levelAtRelease * samplesReleased / release : 0;
             }
-            return envelope.levelAt(samples);
+            int attack = envelope.attack;
+            if (attack > 0 && samples < attack) {
+                return FULL_LEVEL * samples / attack;
+            }
+            int decay = envelope.decay;
+            int later = samples - attack;
+            if (decay > 0 && later < decay) {
+                return FULL_LEVEL - (FULL_LEVEL - envelope.sustain) * later / decay;
+            }
+            return envelope.sustain;
         }
 
         char stage() {
             if (!playing) {
                 return 'f';
             }
-            return released ? 'r' : envelope.stageAt(samples);
-        }
-
-        int sample() {
-            int shaped = waveValue() * level() / FULL_LEVEL;
-            return partOf(shaped, velocity);
+            if (released) {
+                return 'r';
+            }
+            if (samples < envelope.attack) {
+                return 'a';
+            }
+            return samples - envelope.attack < envelope.decay ? 'd' : 's';
         }
 
         int waveValue() {
@@ -880,6 +889,7 @@ public final class ToneGraph {
             velocity = other.velocity;
             wave = other.wave;
             envelope = other.envelope;
+            stride = other.stride;
             phase = other.phase;
             begun = other.begun;
             ended = other.ended;
@@ -889,7 +899,7 @@ public final class ToneGraph {
         }
     }
 
-    /** How loud a note is at each of its samples. It never changes, so notes share it. */
+    /** The four numbers of an envelope. They never change, so that notes share it. */
     private static final class Envelope {
         final int attack;
         final int decay;
@@ -901,28 +911,6 @@ public final class ToneGraph {
             this.decay = decay;
             this.sustain = sustain;
             this.release = release;
-        }
-
-        int levelAt(int sample) {
-            if (attack > 0 && sample < attack) {
-                return FULL_LEVEL * sample / attack;
-            }
-            int later = sample - attack;
-            if (decay > 0 && later < decay) {
-                return FULL_LEVEL - (FULL_LEVEL - sustain) * later / decay;
-            }
-            return sustain;
-        }
-
-        char stageAt(int sample) {
-            if (sample < attack) {
-                return 'a';
-            }
-            return sample - attack < decay ? 'd' : 's';
-        }
-
-        int levelBehind(int levelAtRelease, int sample) {
-            return release > 0 ? levelAtRelease - levelAtRelease * sample / release : 0;
         }
     }
 

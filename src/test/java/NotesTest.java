@@ -4,6 +4,7 @@ final class NotesTest {
 
     public static void main(String[] args) {
         waves();
+        middleOfWaves();
         keys();
         setEnvelope();
         envelopes();
@@ -58,6 +59,21 @@ final class NotesTest {
         CHECK.due(sign + " at 127", due[4], x::step);
         CHECK.due("the phase starts again", 0, () -> x.phaseOf(0));
         CHECK.due(sign + " at 128", due[5], x::step);
+    }
+
+    /** The last phase of the first half: 121 times 5687, modulo 65536, is 32767. */
+    private static void middleOfWaves() {
+        for (char sign : new char[] {'s', 'q', 't'}) {
+            ToneGraph x = new ToneGraph();
+            x.setWave(sign);
+            x.begin(11, 100);
+            for (int i = 0; i < 88; i++) {
+                x.play(64);
+            }
+            x.play(55);
+            CHECK.due("phase", 32767, () -> x.phaseOf(0));
+            CHECK.due(sign + " at the phase 32767", sign == 's' ? -1 : sign == 'q' ? 1000 : 1023, x::step);
+        }
     }
 
     private static void keys() {
