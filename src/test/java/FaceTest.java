@@ -5,6 +5,7 @@ import java.lang.reflect.Method;
 import java.lang.reflect.Modifier;
 import java.nio.file.Files;
 import java.nio.file.Path;
+import java.util.ArrayList;
 import java.util.Arrays;
 import java.util.List;
 import java.util.Set;
@@ -58,7 +59,10 @@ final class FaceTest {
     public static void main(String[] args) throws IOException {
         face();
         names();
-        words(Files.readString(Path.of(args.length > 0 ? args[0] : "src/main/java/ToneGraph.java")));
+        shapes();
+        String source = Files.readString(Path.of(args.length > 0 ? args[0] : "src/main/java/ToneGraph.java"));
+        words(source);
+        throwsOnlyWhatMayBeThrown(source);
         CHECK.close("FaceTest");
     }
 
@@ -110,8 +114,51 @@ final class FaceTest {
         }
     }
 
+    /** Rules 3, 5 and 11: the types of fields, static fields that never change, and not more than 7 parameters. */
+    private static void shapes() {
+        List<Class<?>> types = new ArrayList<>(List.of(ToneGraph.class.getDeclaredClasses()));
+        types.add(ToneGraph.class);
+        for (Class<?> type : types) {
+            for (Field field : type.getDeclaredFields()) {
+                boolean fixed = !Modifier.isStatic(field.getModifiers()) || Modifier.isFinal(field.getModifiers());
+                CHECK.due(field + " is final if it is static", true, () -> fixed);
+                CHECK.due(field + " has a type of rule 3", true, () -> isPlain(field.getType(), types));
+            }
+            for (Method method : type.getDeclaredMethods()) {
+                CHECK.due(method + " takes 7 at most", true, () -> method.getParameterCount() <= 7);
+            }
+            for (Constructor<?> constructor : type.getDeclaredConstructors()) {
+                CHECK.due(constructor + " takes 7 at most", true, () -> constructor.getParameterCount() <= 7);
+            }
+        }
+    }
+
+    private static boolean isPlain(Class<?> type, List<Class<?>> own) {
+        if (!type.isArray()) {
+            return type.isPrimitive() || own.contains(type);
+        }
+        Class<?> part = type.getComponentType();
+        return part.isPrimitive() || own.contains(part) || part.isArray() && part.getComponentType().isPrimitive();
+    }
+
+    private static String withoutComments(String source) {
+        return source.replaceAll("(?s)/\\*.*?\\*/", " ").replaceAll("//[^\n]*", " ");
+    }
+
+    /** Rule 6: throw new E("a written text"), E one of those that the document names. */
+    private static void throwsOnlyWhatMayBeThrown(String source) {
+        String[] parts = withoutComments(source).split("\\bthrow\\b");
+        CHECK.due("it throws", true, () -> parts.length > 1);
+        for (int i = 1; i < parts.length; i++) {
+            String what = parts[i];
+            CHECK.due("throw" + what.lines().findFirst().orElse(""), true, () -> what.matches("(?s) new (IllegalState|"
+                + "IllegalArgument|IndexOutOfBounds|Arithmetic|UnsupportedOperation|NoSuchElement)"
+                + "(Exception)\\(\"[ -~&&[^\"]]*\"\\);.*"));
+        }
+    }
+
     private static void words(String source) {
-        String code = source.replaceAll("(?s)/\\*.*?\\*/", " ").replaceAll("//[^\n]*", " ");
+        String code = withoutComments(source);
         for (String word : List.of("->", "::", "try", "catch", "finally", "synchronized", "assert", "package", "static {",
                 "System.out", "Exact", "ThreadLocal", "Random", "currentTimeMillis", "nanoTime", "hashCode", "toString",
                 "equals", "instanceof", "record", "switch")) {
