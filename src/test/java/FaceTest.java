@@ -10,6 +10,8 @@ import java.util.Arrays;
 import java.util.List;
 import java.util.Set;
 import java.util.TreeSet;
+import java.util.regex.MatchResult;
+import java.util.regex.Pattern;
 import java.util.stream.Collectors;
 
 /** The public face is that of the document, and the source keeps to those rules of LANGUAGE.md that words show. */
@@ -55,6 +57,12 @@ final class FaceTest {
         "double meanEnergy() ArithmeticException",
         "float quietShare() ArithmeticException",
         "boolean isConsistent()");
+
+    private static final String EXCEPTIONS =
+            "(IllegalState|IllegalArgument|IndexOutOfBounds|Arithmetic|UnsupportedOperation|NoSuchElement)Exception";
+
+    private static final List<String> LIBRARY = List.of("java.lang.String", "java.lang.StringBuilder",
+            "java.lang.Integer", "java.util.ArrayList", "java.util.List");
 
     public static void main(String[] args) throws IOException {
         face();
@@ -133,40 +141,51 @@ final class FaceTest {
         }
     }
 
+    /** Rule 3; texts and lists are held by objects of the library. */
     private static boolean isPlain(Class<?> type, List<Class<?>> own) {
         if (!type.isArray()) {
-            return type.isPrimitive() || own.contains(type);
+            return type.isPrimitive() || own.contains(type) || LIBRARY.contains(type.getName());
         }
         Class<?> part = type.getComponentType();
-        return part.isPrimitive() || own.contains(part) || part.isArray() && part.getComponentType().isPrimitive();
+        return part.isPrimitive() || own.contains(part) || part == String.class
+                || part.isArray() && part.getComponentType().isPrimitive();
     }
 
     private static String withoutComments(String source) {
         return source.replaceAll("(?s)/\\*.*?\\*/", " ").replaceAll("//[^\n]*", " ");
     }
 
-    /** Rule 6: throw new E("a written text"), E one of those that the document names. */
+    /** Rule 6: throw new E() or throw new E("a written text"), E one of those that the document names. */
     private static void throwsOnlyWhatMayBeThrown(String source) {
         String[] parts = withoutComments(source).split("\\bthrow\\b");
         CHECK.due("it throws", true, () -> parts.length > 1);
         for (int i = 1; i < parts.length; i++) {
             String what = parts[i];
-            CHECK.due("throw" + what.lines().findFirst().orElse(""), true, () -> what.matches("(?s) new (IllegalState|"
-                + "IllegalArgument|IndexOutOfBounds|Arithmetic|UnsupportedOperation|NoSuchElement)"
-                + "(Exception)\\(\"[ -~&&[^\"]]*\"\\);.*"));
+            CHECK.due("throw" + what.lines().findFirst().orElse(""), true,
+                    () -> what.matches("(?s) new " + EXCEPTIONS + "\\((\"[ -~&&[^\"]]*\")?\\);.*"));
         }
+    }
+
+    private static void never(String rule, String code, String pattern) {
+        CHECK.due(rule, "", () -> Pattern.compile(pattern, Pattern.MULTILINE).matcher(code).results()
+                .map(MatchResult::group).collect(Collectors.joining(", ")));
     }
 
     private static void words(String source) {
         String code = withoutComments(source);
-        for (String word : List.of("->", "::", "try", "catch", "finally", "synchronized", "assert", "package", "static {",
-                "System.out", "Exact", "ThreadLocal", "Random", "currentTimeMillis", "nanoTime", "hashCode", "toString",
-                "equals", "instanceof", "record", "switch")) {
-            CHECK.due("no " + word, false, () -> code.contains(word));
-        }
-        long imports = code.lines().filter(line -> line.startsWith("import ")).count();
-        CHECK.due("one import", 1L, () -> imports);
-        CHECK.due("of the exception", true, () -> code.contains("import java.util.NoSuchElementException;"));
+        never("no package line", code, "^\\s*package\\b");
+        never("rule 2: no lambda", code, "^(?!\\s*(case|default)\\b).*->");
+        never("rule 2: no method reference", code, "::");
+        never("rule 4: no other import", code,
+                "^import (?!java\\.util\\.(NoSuchElementException|ArrayList|Arrays|List|Iterator);).*");
+        never("rule 4: no function whose name ends in Exact", code, "\\w*Exact\\b");
+        never("rules 4 and 13: nothing of System but arraycopy", code, "System\\.(?!arraycopy\\b)\\w+");
+        never("rule 5: no static initialiser", code, "\\bstatic\\s*\\{");
+        never("rule 6", code, "\\b(finally|synchronized|assert|getMessage|hashCode)\\b");
+        never("rule 6: no try with resources", code, "\\btry\\s*\\(");
+        never("rule 6: no exception classes", code, "\\bextends\\s+\\w*(Exception|Error|Throwable)\\b");
+        never("what the machine throws is not caught", code, "\\bcatch\\s*\\((?!(final )?" + EXCEPTIONS + ").*");
+        never("rule 13", code, "\\b(Thread\\w*|Random|Runtime|File|Socket|Instant|LocalDate\\w*)\\b");
         CHECK.due("signs up to 127", true, () -> source.chars().allMatch(sign -> sign < 128));
     }
 }

@@ -18,6 +18,7 @@ final class NoteEdges {
         promise24();
         promise25();
         promise26();
+        eachVoiceByItself();
         promise27();
     }
 
@@ -246,6 +247,33 @@ final class NoteEdges {
         check.due("26: 541 times 121", 65461, () -> y.phaseOf(0));
         y.step();
         check.due("26: 65582, modulo 65536", 46, () -> y.phaseOf(0));
+    }
+
+    /** Which of the other voices are free does not matter, nor for the level and the state. */
+    private static void eachVoiceByItself() {
+        for (int free = 0; free < 16; free++) {
+            ToneGraph x = new ToneGraph();
+            for (int voice = 0; voice < 4; voice++) {
+                x.begin(voice, 100);
+            }
+            x.step();
+            for (int voice = 0; voice < 4; voice++) {
+                if ((free >> voice & 1) == 1) {
+                    x.end(voice);
+                }
+            }
+            int[] steps = {64, 68, 72, 76};
+            for (int voice = 0; voice < 4; voice++) {
+                int number = voice;
+                boolean over = (free >> voice & 1) == 1;
+                String refusal = "throws.IllegalStateException";
+                check.due("23: the voice " + voice + " alone", over ? 'f' : 's', () -> x.stateOf(number));
+                check.due("24: the voice " + voice + " alone", over ? refusal : number, () -> x.keyOf(number));
+                check.due("25: the voice " + voice + " alone", over ? 0 : 1000, () -> x.levelOf(number));
+                check.due("26: the voice " + voice + " alone", over ? refusal : steps[number], () -> x.phaseOf(number));
+            }
+            check.due("22: the others sound", 4 - Integer.bitCount(free), x::sounding);
+        }
     }
 
     private static void promise27() {
